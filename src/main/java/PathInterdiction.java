@@ -33,10 +33,9 @@ public final class PathInterdiction {
     private final Text text = new Text();
     private final Router router = new Router(graph);
     private final Walker walker = new Walker(graph);
-    private final BestAttack bestAttack = new BestAttack(graph, router);
-    private final HelpSearch helpSearch = new HelpSearch(graph, router);
+    private final AttackSearch search = new AttackSearch(graph, router);
     private final GreedyAttack greedyAttack = new GreedyAttack(graph, router);
-    private final Fortifier fortifier = new Fortifier(graph, bestAttack);
+    private final Fortifier fortifier = new Fortifier(graph, search);
     private int found = NONE;
 
     public PathInterdiction() {
@@ -204,12 +203,12 @@ public final class PathInterdiction {
         if (!areNodes(from, to) || !isWithin(aim, UNREACHABLE)) {
             return BAD;
         }
-        bestAttack.seek(from, to, MOST_BUDGET, 0, aim, 0);
-        if (bestAttack.reached < aim) {
+        search.seekBest(from, to, MOST_BUDGET, 0, aim, 0);
+        if (search.reached < aim) {
             return NONE;
         }
-        found = bestAttack.chosen;
-        return bestAttack.price;
+        found = search.chosen;
+        return search.price;
     }
 
     public int blockade(int from, int to) {
@@ -240,9 +239,9 @@ public final class PathInterdiction {
         if (!areNodes(from, to) || !isWithin(budget, MOST_BUDGET) || !isWithin(repairs, MOST_REPAIRS)) {
             return BAD;
         }
-        bestAttack.seek(from, to, budget, repairs, UNREACHABLE, 0);
-        found = bestAttack.chosen;
-        return bestAttack.reached;
+        search.seekBest(from, to, budget, repairs, UNREACHABLE, 0);
+        found = search.chosen;
+        return search.reached;
     }
 
     public int fortify(int from, int to, int budget, int most) {
@@ -271,7 +270,8 @@ public final class PathInterdiction {
         if (!areNodes(from, to) || !isWithin(budget, MOST_BUDGET)) {
             return BAD;
         }
-        return graph.all() & ~helpSearch.seek(from, to, budget);
+        search.seekHelpful(from, to, budget);
+        return graph.all() & ~search.helpful;
     }
 
     public long expected(int from, int to, int edges, int q) {
@@ -385,16 +385,19 @@ public final class PathInterdiction {
         /** How many ints a copy of a graph takes. */
         static final int ROW = MOST_EDGES + 2;
 
-        // An edge is packed into one int, so that a state is a short row that is copied whole.
+        // An edge is packed into one int, so that a state is a short row that is copied whole, and a node
+        // taken out of it is in range whatever the int is.
+        static final int TO_AT = 3, LENGTH_AT = 6, DELAY_AT = 13, COST_AT = 20;
+        static final int NODE_BITS = 7, NUMBER_BITS = 127, COST_BITS = 15;
         private static final int[] SHIFTS = {0, 3, 6, 13, 20};
         private static final int[] MASKS = {7, 7, 127, 127, 15};
 
-        private final int[] codes = new int[MOST_EDGES];
+        final int[] codes = new int[MOST_EDGES];
         int size = 0;
         int attacked = 0;
 
         static int pack(int from, int to, int length, int delay, int cost) {
-            return from | to << 3 | length << 6 | delay << 13 | cost << 20;
+            return from | to << TO_AT | length << LENGTH_AT | delay << DELAY_AT | cost << COST_AT;
         }
 
         /** Whether a property can be set to a value; its nodes can't be set. */
@@ -437,30 +440,27 @@ public final class PathInterdiction {
         }
 
         int from(int e) {
-            return has(e) ? codes[e] & 7 : 0;
+            return has(e) ? codes[e] & NODE_BITS : 0;
         }
 
         int to(int e) {
-            return has(e) ? codes[e] >> 3 & 7 : 0;
+            return has(e) ? codes[e] >> TO_AT & NODE_BITS : 0;
         }
 
         int cost(int e) {
-            return has(e) ? codes[e] >> 20 & 15 : 0;
+            return has(e) ? codes[e] >> COST_AT & COST_BITS : 0;
         }
 
         int plainLength(int e) {
-            return has(e) ? codes[e] >> 6 & 127 : 0;
+            return has(e) ? codes[e] >> LENGTH_AT & NUMBER_BITS : 0;
         }
 
-        /** The length of an edge under an attack, UNREACHABLE if it can't be used. */
-        int lengthUnder(int e, int set) {
-            int delay = (set >> e & 1) != 0 ? part(e, DELAY) : 0;
-            return delay == BLOCK ? UNREACHABLE : plainLength(e) + delay;
-        }
-
+        /** The lengths under an attack; UNREACHABLE for an edge that can't be used. */
         void fillLengths(int set, int[] lengths) {
             for (int e = 0; e < size && e < lengths.length; e++) {
-                lengths[e] = lengthUnder(e, set);
+                int code = codes[e];
+                int delay = (set >> e & 1) != 0 ? code >> DELAY_AT & NUMBER_BITS : 0;
+                lengths[e] = delay == BLOCK ? UNREACHABLE : (code >> LENGTH_AT & NUMBER_BITS) + delay;
             }
         }
 
@@ -753,8 +753,9 @@ public final class PathInterdiction {
             for (int round = 0; round < NODES && better; round++) {
                 better = false;
                 for (int e = 0; e < graph.size; e++) {
-                    int u = graph.from(e);
-                    int v = graph.to(e);
+                    int code = graph.codes[e];
+                    int u = code & Graph.NODE_BITS;
+                    int v = code >> Graph.TO_AT & Graph.NODE_BITS;
                     int sum = distances[u] + lengths[e];
                     // From an unreachable node, or by an edge that can't be used, the sum is too great.
                     if (sum < distances[v]) {
@@ -768,12 +769,15 @@ public final class PathInterdiction {
 
         /** Lets each attacked edge be used once more as if it were not attacked. */
         private void repairOnce(int set) {
-            System.arraycopy(distances, 0, distancesBefore, 0, NODES);
-            System.arraycopy(used, 0, usedBefore, 0, NODES);
+            for (int node = 0; node < NODES; node++) {
+                distancesBefore[node] = distances[node];
+                usedBefore[node] = used[node];
+            }
             for (int e = 0; e < graph.size; e++) {
-                int u = graph.from(e);
-                int v = graph.to(e);
-                int sum = distancesBefore[u] + graph.plainLength(e);
+                int code = graph.codes[e];
+                int u = code & Graph.NODE_BITS;
+                int v = code >> Graph.TO_AT & Graph.NODE_BITS;
+                int sum = distancesBefore[u] + (code >> Graph.LENGTH_AT & Graph.NUMBER_BITS);
                 if ((set >> e & 1) != 0 && sum < distances[v]) {
                     distances[v] = sum;
                     used[v] = usedBefore[u] | 1 << e;
@@ -815,6 +819,7 @@ public final class PathInterdiction {
     /** Goes through the simple paths under the present attack, in the order of their sequences of edges. */
     private static final class Walker {
         private final Graph graph;
+        private final int[] lengths = new int[MOST_EDGES];
         private final int[] trail = new int[NODES];
         int trailSize = 0;
         // The least lengths so far, in ascending order.
@@ -855,11 +860,13 @@ public final class PathInterdiction {
 
         private int begin(int source, int target, int limit, int leastWanted) {
             this.target = target;
-            this.limit = limit;
+            // No path is so long, but an edge that can't be used is: so it never fits.
+            this.limit = Math.min(limit, UNREACHABLE - 1);
             this.leastWanted = leastWanted;
             leastSize = 0;
             arrivals = 0;
             trailSize = 0;
+            graph.fillLengths(graph.attacked, lengths);
             walk(source, 1 << source, 0, 0);
             return arrivals;
         }
@@ -873,14 +880,11 @@ public final class PathInterdiction {
                 return false;
             }
             for (int e = 0; e < graph.size; e++) {
-                if (graph.from(e) == node && (seen >> graph.to(e) & 1) == 0) {
-                    int step = graph.lengthUnder(e, graph.attacked);
-                    int next = graph.to(e);
-                    if (step != UNREACHABLE && length + step <= limit) {
-                        trail[depth] = e;
-                        if (walk(next, seen | 1 << next, length + step, depth + 1)) {
-                            return true;
-                        }
+                int next = graph.to(e);
+                if (graph.from(e) == node && (seen >> next & 1) == 0 && lengths[e] <= limit - length) {
+                    trail[depth] = e;
+                    if (walk(next, seen | 1 << next, length + lengths[e], depth + 1)) {
+                        return true;
                     }
                 }
             }
@@ -917,27 +921,61 @@ public final class PathInterdiction {
      * further edges is on every shortest path under the part. So it is enough to add edges of one such
      * path, and no set is missed that has no smaller one within it with the same distance.
      */
-    private abstract static class AttackSearch {
-        final Graph graph;
-        final Router router;
-        int source = 0;
-        int target = 0;
-        int budget = 0;
-        int repairs = 0;
+    private static final class AttackSearch {
+        private final Graph graph;
+        private final Router router;
+        private int source = 0;
+        private int target = 0;
+        private int budget = 0;
+        private int repairs = 0;
+        private int aim = 0;
+        private boolean marking = false;
+        // The best attack so far: its distance, but at most the aim; its cost; its edges.
+        int reached = 0;
+        int price = 0;
+        int chosen = 0;
+        /** The edges that help in one of the attacks so far, if they are marked. */
+        int helpful = 0;
 
         AttackSearch(Graph graph, Router router) {
             this.graph = graph;
             this.router = router;
         }
 
-        /** Looks at one attack; whether larger ones shall be looked at too. */
-        abstract boolean weigh(int set, int cost, int distance);
+        /** Finds the attack with the greatest distance up to an aim, the cheapest one, the least number. */
+        void seekBest(int source, int target, int budget, int repairs, int aim, int shut) {
+            this.source = source;
+            this.target = target;
+            this.budget = budget;
+            this.repairs = repairs;
+            this.aim = aim;
+            marking = false;
+            reached = NONE;
+            grow(0, 0, shut, 0);
+        }
 
-        final void grow(int set, int cost, int shut, int depth) {
+        /** Marks the edges that help an attacker. */
+        void seekHelpful(int source, int target, int budget) {
+            this.source = source;
+            this.target = target;
+            this.budget = budget;
+            repairs = 0;
+            aim = UNREACHABLE;
+            marking = true;
+            helpful = 0;
+            grow(0, 0, 0, 0);
+        }
+
+        private void grow(int set, int cost, int shut, int depth) {
             router.run(source, set, repairs);
             int distance = router.distanceTo(target);
             int open = router.usedTo(target) & ~set & ~shut;
-            if (!weigh(set, cost, distance) || depth >= MOST_EDGES) {
+            if (marking) {
+                markHelpful(set, distance);
+            } else {
+                weigh(set, cost, distance);
+            }
+            if (distance >= aim || depth >= MOST_EDGES) {
                 return;
             }
             int closed = shut;
@@ -952,31 +990,8 @@ public final class PathInterdiction {
                 }
             }
         }
-    }
 
-    /** Finds the attack with the greatest distance up to an aim, the cheapest one, the least number. */
-    private static final class BestAttack extends AttackSearch {
-        private int aim = 0;
-        int reached = 0;
-        int price = 0;
-        int chosen = 0;
-
-        BestAttack(Graph graph, Router router) {
-            super(graph, router);
-        }
-
-        void seek(int source, int target, int budget, int repairs, int aim, int shut) {
-            this.source = source;
-            this.target = target;
-            this.budget = budget;
-            this.repairs = repairs;
-            this.aim = aim;
-            reached = NONE;
-            grow(0, 0, shut, 0);
-        }
-
-        @Override
-        boolean weigh(int set, int cost, int distance) {
+        private void weigh(int set, int cost, int distance) {
             // More than the aim is worth no more than the aim.
             int value = Math.min(distance, aim);
             if (value > reached || value == reached && isCheaper(set, cost)) {
@@ -984,43 +999,25 @@ public final class PathInterdiction {
                 price = cost;
                 chosen = set;
             }
-            return value < aim;
         }
 
         private boolean isCheaper(int set, int cost) {
             return cost < price || cost == price && set < chosen;
         }
-    }
-
-    /** Finds the edges that help an attacker. */
-    private static final class HelpSearch extends AttackSearch {
-        private int helpful = 0;
-
-        HelpSearch(Graph graph, Router router) {
-            super(graph, router);
-        }
-
-        int seek(int source, int target, int budget) {
-            this.source = source;
-            this.target = target;
-            this.budget = budget;
-            helpful = 0;
-            grow(0, 0, 0, 0);
-            return helpful;
-        }
 
         // An edge that helps within any set helps within one that has no smaller one within it with the
         // same distance, and these are all seen.
-        @Override
-        boolean weigh(int set, int cost, int distance) {
+        private void markHelpful(int set, int distance) {
             int unknown = set & ~helpful;
             for (int e = 0; e < graph.size; e++) {
                 int bit = 1 << e;
-                if ((unknown & bit) != 0 && router.measure(source, target, set & ~bit, 0) < distance) {
-                    helpful |= bit;
+                if ((unknown & bit) != 0) {
+                    router.run(source, set & ~bit, 0);
+                    if (router.distanceTo(target) < distance) {
+                        helpful |= bit;
+                    }
                 }
             }
-            return true;
         }
     }
 
@@ -1069,7 +1066,7 @@ public final class PathInterdiction {
      */
     private static final class Fortifier {
         private final Graph graph;
-        private final BestAttack bestAttack;
+        private final AttackSearch search;
         private int source = 0;
         private int target = 0;
         private int budget = 0;
@@ -1077,9 +1074,9 @@ public final class PathInterdiction {
         private int reached = 0;
         int chosen = 0;
 
-        Fortifier(Graph graph, BestAttack bestAttack) {
+        Fortifier(Graph graph, AttackSearch search) {
             this.graph = graph;
-            this.bestAttack = bestAttack;
+            this.search = search;
         }
 
         int seek(int source, int target, int budget, int most) {
@@ -1093,11 +1090,11 @@ public final class PathInterdiction {
         }
 
         private void hold(int forts, int size) {
-            bestAttack.seek(source, target, budget, 0, UNREACHABLE, forts);
-            int threat = bestAttack.chosen;
-            if (chosen == NONE || isBetter(forts, size, bestAttack.reached)) {
+            search.seekBest(source, target, budget, 0, UNREACHABLE, forts);
+            int threat = search.chosen;
+            if (chosen == NONE || isBetter(forts, size, search.reached)) {
                 chosen = forts;
-                reached = bestAttack.reached;
+                reached = search.reached;
             }
             if (size >= most || size >= MOST_FORTS) {
                 return;

@@ -58,6 +58,10 @@ public final class AttackTest {
         finds(z, "18: one alone does not help", z.interdict(0, 1, 3), 1, 0);
         PathInterdiction w = Texts.loaded("ab1+5:1 ab1+5:1 bc1+5:1 cd1+5:1");
         finds(w, "18: {2, 3} costs less than {0, 1, 2}", w.interdict(0, 3, 3), 13, Texts.set(2, 3));
+        PathInterdiction v = Texts.loaded("ab1+1:1 bc1+3:2 cd1+3:2 de1+5:3");
+        finds(v, "18: {1, 2} is a less number than {0, 3}", v.interdict(0, 4, 4), 10, Texts.set(1, 2));
+        PathInterdiction u = Texts.loaded("ba1+5:2 cb1+5:1");
+        finds(u, "18: the node a as t", u.interdict(2, 0, 2), 7, Texts.set(1));
     }
 
     private static void greedy() {
@@ -107,6 +111,8 @@ public final class AttackTest {
         finds(y, "20: the least number, though others do more", y.budgetFor(0, 3, 8), 1, Texts.set(0));
         PathInterdiction z = Texts.loaded("ab1+2:1 bc1+9:1");
         finds(z, "20: the aim decides", z.budgetFor(0, 2, 5), 1, Texts.set(1));
+        PathInterdiction v = Texts.loaded("ab1+1:1 bc1+3:2 cd1+3:2 de1+5:3");
+        finds(v, "20: {1, 2} is a less number than {0, 3}", v.budgetFor(0, 4, 10), 4, Texts.set(1, 2));
         PathInterdiction w = Texts.loaded("ab1+x:6");
         finds(w, "20: a cost of 6 is too much", w.budgetFor(0, 1, 2), NONE, NONE);
         w.setEdge(0, 4, 5);
@@ -191,6 +197,8 @@ public final class AttackTest {
         PathInterdiction w = Texts.loaded("ab1+5:1 bc1+5:1");
         finds(w, "24: one of two", w.fortify(0, 2, 1, 1), 7, 0);
         finds(w, "24: both", w.fortify(0, 2, 1, 2), 2, 3);
+        PathInterdiction v = Texts.loaded("dc2+5:2 ce3+5:1 ad0+6:2");
+        finds(v, "24: {0, 2} is a less number than {1, 2}", v.fortify(0, 4, 3, 2), 10, Texts.set(0, 2));
     }
 
     private static void finding() {

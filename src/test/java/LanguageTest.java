@@ -100,7 +100,7 @@ public final class LanguageTest {
     private static void madeOnce(String code) {
         for (String line : code.split("\n")) {
             if (line.contains("new ")) {
-                due.holds("made in a field: " + line.trim(), line.trim().startsWith("private final "));
+                due.holds("made in a field: " + line.trim(), line.trim().matches("(private )?final .*"));
             }
         }
     }

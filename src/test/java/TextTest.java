@@ -49,7 +49,9 @@ public final class TextTest {
     }
 
     private static void fault(String text, int want) {
-        due.is("9: fault of '" + text + "'", Texts.typed(text).fault(), want);
+        PathInterdiction x = Texts.typed(text);
+        due.is("9: fault of '" + text + "'", x.fault(), want);
+        due.is("9: fault of '" + text + "', asked again", x.fault(), want);
     }
 
     private static void noFault() {
