@@ -176,6 +176,8 @@ public final class AttackTest {
         PathInterdiction y = Texts.loaded("ab1+x:1 bc1+x:1 cd1+x:1 de1+x:1");
         finds(y, "23: three repairs, four blocks", y.interdictResponse(0, 4, 4, 3), FAR, 15);
         finds(y, "23: three repairs, three blocks", y.interdictResponse(0, 4, 3, 3), 4, 0);
+        PathInterdiction z = Texts.loaded("bd0+6:1 ab0+x:1");
+        finds(z, "23: the second edge of the path is the first one here", z.interdictResponse(0, 3, 3, 1), 6, 3);
         finds(y, "23: two repairs, three blocks", y.interdictResponse(0, 4, 3, 2), FAR, 7);
     }
 

@@ -126,6 +126,7 @@ public final class PathTest {
         x.setAttack(Texts.set(1, 2));
         due.is("15: one blocked, one delayed", x.paths(0, 3, 9), 1);
         due.is("15: the delayed one", x.paths(0, 3, 10), 2);
+        due.is("15: the blocked one is of no length", x.paths(1, 3, GREATEST), 0);
         PathInterdiction y = Texts.loaded("ab0+1:1 ba0+1:1 ab0+1:1 bc0+1:1 cb0+1:1");
         due.is("15: only simple paths", y.paths(0, 2, 99), 2);
         due.is("15: a cycle is not simple", y.paths(0, 0, 99), 1);
@@ -146,6 +147,7 @@ public final class PathTest {
         x.setAttack(Texts.set(0, 1));
         due.is("16: under an attack", x.pathLength(0, 3, 0), 6);
         due.is("16: one is blocked", x.pathLength(0, 3, 2), NONE);
+        due.is("16: the only one is blocked", x.pathLength(1, 3, 0), NONE);
     }
 
     private static void manyPaths() {
@@ -184,6 +186,9 @@ public final class PathTest {
         PathInterdiction z = Texts.loaded("ab0+1:1 bc0+x:1 ca0+1:1");
         z.setAttack(2);
         due.is("17: an edge that can't be used", z.tight(0, 1), Texts.set(0));
+        PathInterdiction w = Texts.loaded("ab1+1:1 bd1+5:1 ad2+1:1");
+        w.setAttack(2);
+        due.is("17: edges before a delayed one", w.tight(0, 3), Texts.set(2));
     }
 
     private static void wrongNodes() {
