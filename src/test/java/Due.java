@@ -24,6 +24,10 @@ final class Due {
         return wrong == 0;
     }
 
+    boolean hasAsked() {
+        return asked != 0;
+    }
+
     /** Ends the program, with exit code 1 if an answer was wrong or none was asked for. */
     void end() {
         System.out.println(test + ": " + asked + " answers, " + wrong + " not as due");
