@@ -89,6 +89,34 @@ final class Ask {
         isBad(due, "both nodes 8", x -> call.on(x, 8, 8));
     }
 
+    /**
+     * From every node over every other one to every third one: there are two edges, of the lengths 1 and 2; the first
+     * one can be delayed by 5 for a cost of 1, the second one blocked for a cost of 2. Nothing leads back.
+     */
+    static void ways(Due due, Two call, long there, long back) {
+        for (int way = 0; way < 512; way++) {
+            int s = way >> 6;
+            int middle = way >> 3 & 7;
+            int t = way & 7;
+            if (s != middle && middle != t && s != t) {
+                PathInterdiction x = new PathInterdiction();
+                x.addEdge(s, middle, 1, 5, 1);
+                x.addEdge(middle, t, 2, PathInterdiction.BLOCK, 2);
+                due.is("from " + s + " by " + middle + " to " + t, call.on(x, s, t), there);
+                due.is("back from " + t + " by " + middle + " to " + s, call.on(x, t, s), back);
+            }
+        }
+    }
+
+    /** As ways(), for a call that finds a set. */
+    static void waysOfFinder(Due due, Two call, int there, int foundThere, int back) {
+        ways(due, call, there, back);
+        ways(due, (x, s, t) -> {
+            call.on(x, s, t);
+            return x.finding();
+        }, foundThere, 0);
+    }
+
     /** Edges that exist are taken, others are BAD, and change nothing. */
     static void edge(Due due, One call) {
         for (Supplier<PathInterdiction> bench : BENCHES) {

@@ -24,8 +24,8 @@ final class Due {
         return wrong == 0;
     }
 
-    boolean hasAsked() {
-        return asked != 0;
+    int asked() {
+        return asked;
     }
 
     /** Ends the program, with exit code 1 if an answer was wrong or none was asked for. */

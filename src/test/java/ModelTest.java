@@ -2,8 +2,10 @@ import java.util.Random;
 
 /** Long runs of calls, made by fixed seeds, on the class and on the model: every answer must be the same. */
 public final class ModelTest {
-    private static final int RUNS = 700;
-    private static final int CALLS = 400;
+    private static final int RUNS = 4000;
+    /** An object is used for at most 512 calls, and a step that types a text takes fewer than 150. */
+    private static final int CALLS = 512 - 150;
+    private static final int STEPS = 1000;
 
     private final Due due = new Due("ModelTest");
     private final Random random;
@@ -35,7 +37,7 @@ public final class ModelTest {
         Due all = new Due("ModelTest");
         for (int seed = 1; seed <= RUNS; seed++) {
             ModelTest test = new ModelTest(seed);
-            for (int i = 0; i < CALLS && test.due.isClean(); i++) {
+            for (int i = 0; i < STEPS && test.due.asked() < CALLS && test.due.isClean(); i++) {
                 test.step();
             }
             all.holds("the run of seed " + seed, test.due.isClean());

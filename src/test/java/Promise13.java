@@ -10,6 +10,7 @@ final class Promise13 {
         promise.says("Returns the distance", due -> Ask.question(due, x -> x.distance(0, 3)));
         promise.says("`from`: the node s", due -> Ask.from(due, PathInterdiction::distance));
         promise.says("`to`: the node t", due -> Ask.to(due, PathInterdiction::distance));
+        promise.says("the node t", due -> Ask.ways(due, PathInterdiction::distance, 3, FAR));
         promise.says("Returns the distance, perhaps UNREACHABLE", Promise13::extremes);
         promise.says("BAD", due -> Ask.isBad(due, "distance(-1, 8)", x -> x.distance(-1, 8)));
     }

@@ -10,6 +10,7 @@ final class Promise14 {
         promise.says("Returns an edge of the first path", due -> Ask.question(due, x -> x.first(0, 3, 1)));
         promise.says("`from`: the node s", due -> Ask.from(due, (x, s, t) -> x.first(s, t, 0)));
         promise.says("`to`: the node t", due -> Ask.to(due, (x, s, t) -> x.first(s, t, NONE)));
+        promise.says("the node t", due -> Ask.ways(due, (x, s, t) -> x.first(s, t, 1), 1, NONE));
         promise.says("`i`: the index of the edge in the path, from 0", Promise14::eachIndex);
         promise.says("NONE for the number of its edges", Promise14::number);
         promise.says("Returns the edge or the number", Promise14::lastEdge);

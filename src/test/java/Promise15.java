@@ -11,6 +11,7 @@ final class Promise15 {
         promise.says("under the present attack", Promise15::underAttack);
         promise.says("`from`: the node s", due -> Ask.from(due, (x, s, t) -> x.paths(s, t, 5)));
         promise.says("`to`: the node t", due -> Ask.to(due, (x, s, t) -> x.paths(s, t, 0)));
+        promise.says("the node t", due -> Ask.ways(due, (x, s, t) -> x.paths(s, t, 3), 1, 0));
         promise.says("`most`: the greatest length that is counted, 0 or greater", Promise15::most);
         promise.says("Returns the number of simple paths whose length is not greater than most", Promise15::exactly);
         promise.says("BAD", due -> Ask.isBad(due, "most = -1 for the empty path", x -> x.paths(0, 0, -1)));
@@ -24,6 +25,10 @@ final class Promise15 {
             }
         }
         PathInterdiction y = new PathInterdiction();
+        PathInterdiction v = Texts.loaded("ab0+1:1 bc0+1:1 cb0+1:1 bd0+1:1 cd0+1:1");
+        due.is("not twice by a node in between", v.paths(0, 3, GREATEST), 2);
+        v.first(0, 3, 0);
+        due.is("all of them, also after the first one was asked for", v.paths(0, 3, GREATEST), 2);
         due.is("no edges, the empty path", y.paths(7, 7, 0), 1);
         due.is("no edges, no path", y.paths(7, 6, GREATEST), 0);
         PathInterdiction z = Benches.ladder(1);

@@ -11,6 +11,7 @@ final class Promise16 {
         promise.says("ordered by their lengths, and those of equal lengths by their sequences of edges", Promise16::ordered);
         promise.says("`from`: the node s", due -> Ask.from(due, (x, s, t) -> x.pathLength(s, t, 0)));
         promise.says("`to`: the node t", due -> Ask.to(due, (x, s, t) -> x.pathLength(s, t, 99)));
+        promise.says("the node t", due -> Ask.ways(due, (x, s, t) -> x.pathLength(s, t, 0), 3, NONE));
         promise.says("`k`: the index of the path, from 0 to 99", due -> Ask.range(due, 0, 99, (x, k) -> x.pathLength(0, 3, k)));
         promise.says("Returns the length; BAD", Promise16::hundredPaths);
         promise.says("BAD", Promise16::badComesFirst);
@@ -91,6 +92,9 @@ final class Promise16 {
         due.is("is the only one", Benches.fresh().pathLength(7, 7, 1), NONE);
         due.is("path 0 of none", Benches.fresh().pathLength(0, 7, 0), NONE);
         due.is("path 99 of none", Benches.fresh().pathLength(0, 7, 99), NONE);
+        PathInterdiction z = Texts.loaded(Benches.DIAMOND);
+        z.first(0, 3, 0);
+        due.is("path 2 of three, also after the first one was asked for", z.pathLength(0, 3, 2), 9);
         // Lengths of an earlier call must not be seen.
         PathInterdiction y = Texts.loaded(Benches.DIAMOND);
         y.pathLength(0, 3, 2);

@@ -10,6 +10,7 @@ final class Promise17 {
         promise.says("simple or not", Promise17::notSimple);
         promise.says("`from`: the node s", due -> Ask.from(due, PathInterdiction::tight));
         promise.says("`to`: the node t", due -> Ask.to(due, PathInterdiction::tight));
+        promise.says("the node t", due -> Ask.ways(due, PathInterdiction::tight, 3, 0));
         promise.says("Returns the set, 0 if there is no path", Promise17::noPath);
         promise.says("or s = t", Promise17::sameNode);
         promise.says("BAD", due -> Ask.isBad(due, "tight(8, 8)", x -> x.tight(8, 8)));
@@ -40,6 +41,9 @@ final class Promise17 {
         due.is("a delay makes two equal", y.tight(0, 1), 3);
         y.setAttack(5);
         due.is("beside a blocked one", y.tight(0, 1), 3);
+        PathInterdiction z = Texts.loaded("ab1+1:1 bd1+5:1 ad2+1:1");
+        z.setAttack(2);
+        due.is("an edge before a delayed one", z.tight(0, 3), 4);
     }
 
     private static void notSimple(Due due) {

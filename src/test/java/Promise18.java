@@ -13,6 +13,7 @@ final class Promise18 {
         promise.says("The set is the finding.", due -> Ask.finder(due, x -> x.interdict(0, 3, 5)));
         promise.says("`from`: the node s", due -> Ask.from(due, (x, s, t) -> x.interdict(s, t, 5)));
         promise.says("`to`: the node t", due -> Ask.to(due, (x, s, t) -> x.interdict(s, t, 0)));
+        promise.says("the node t", due -> Ask.waysOfFinder(due, (x, s, t) -> x.interdict(s, t, 1), 8, 1, FAR));
         promise.says("`budget`: the greatest cost, 0 to 5", due -> Ask.range(due, 0, 5, (x, b) -> x.interdict(0, 3, b)));
         promise.says("Returns the distance under this attack", Promise18::answersDistance);
         promise.says("BAD", Promise18::badKeepsFinding);
@@ -44,6 +45,8 @@ final class Promise18 {
         PathInterdiction y = Texts.loaded("ab1+99:1 bc1+98:1 cd1+x:5");
         Ask.finds(due, y, "a block is more than any delay", y.interdict(0, 3, 5), FAR, 4);
         Ask.finds(due, y, "but may be too dear", y.interdict(0, 3, 4), 200, 3);
+        PathInterdiction z = Texts.loaded("ab1+1:1 ac5+20:1 bc1+x:1");
+        Ask.finds(due, z, "an edge of one way and one of another", z.interdict(0, 2, 2), 25, Texts.set(1, 2));
     }
 
     private static void cheapest(Due due) {

@@ -16,6 +16,7 @@ final class Promise19 {
         promise.says("The set is the finding.", due -> Ask.finder(due, x -> x.greedy(0, 3, 20)));
         promise.says("`from`: the node s", due -> Ask.from(due, (x, s, t) -> x.greedy(s, t, 20)));
         promise.says("`to`: the node t", due -> Ask.to(due, (x, s, t) -> x.greedy(s, t, 0)));
+        promise.says("the node t", due -> Ask.waysOfFinder(due, (x, s, t) -> x.greedy(s, t, 2), FAR, 2, FAR));
         promise.says("`budget`: the greatest cost, 0 to 20", due -> Ask.range(due, 0, 20, (x, b) -> x.greedy(0, 3, b)));
         promise.says("Returns the distance under this attack", Promise19::answersDistance);
         promise.says("BAD", Promise19::badKeepsFinding);

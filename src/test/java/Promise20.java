@@ -14,6 +14,7 @@ final class Promise20 {
         promise.says("The set is the finding.", due -> Ask.finder(due, x -> x.budgetFor(0, 3, 0)));
         promise.says("`from`: the node s", due -> Ask.from(due, (x, s, t) -> x.budgetFor(s, t, 0)));
         promise.says("`to`: the node t", due -> Ask.to(due, (x, s, t) -> x.budgetFor(s, t, FAR)));
+        promise.says("the node t", due -> Ask.waysOfFinder(due, (x, s, t) -> x.budgetFor(s, t, 9), 2, 2, 0));
         promise.says("`aim`: the aim, 0 to UNREACHABLE", Promise20::aims);
         promise.says("Returns the cost", Promise20::answersCost);
         promise.says("BAD", Promise20::badKeepsFinding);

@@ -13,6 +13,7 @@ final class Promise21 {
         promise.says("whatever its cost", Promise21::whateverItCosts);
         promise.says("`from`: the node s", due -> Ask.from(due, PathInterdiction::blockade));
         promise.says("`to`: the node t", due -> Ask.to(due, PathInterdiction::blockade));
+        promise.says("the node t", due -> Ask.ways(due, PathInterdiction::blockade, 2, 0));
         promise.says("Returns the cost; BAD", Promise21::answersZero);
         promise.says("BAD", due -> Ask.isBad(due, "blockade(-1, -1)", x -> x.blockade(-1, -1)));
         promise.says("NONE if there is none", Promise21::none);

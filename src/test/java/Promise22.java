@@ -12,6 +12,7 @@ final class Promise22 {
         promise.says("a blocked edge can be used then", Promise22::blocked);
         promise.says("`from`: the node s", due -> Ask.from(due, (x, s, t) -> x.respond(s, t, 0, 3)));
         promise.says("`to`: the node t", due -> Ask.to(due, (x, s, t) -> x.respond(s, t, 0, 0)));
+        promise.says("the node t", due -> Ask.ways(due, (x, s, t) -> x.respond(s, t, 3, 1), 8, FAR));
         promise.says("`edges`: the attack", Promise22::attack);
         promise.says("`repairs`: how often, 0 to 3", due -> Ask.range(due, 0, 3, (x, r) -> x.respond(0, 3, 0, r)));
         promise.says("Returns the distance, perhaps UNREACHABLE", Promise22::answersDistance);

@@ -12,6 +12,7 @@ final class Promise23 {
         promise.says("The set is the finding.", due -> Ask.finder(due, x -> x.interdictResponse(0, 3, 5, 1)));
         promise.says("`from`: the node s", due -> Ask.from(due, (x, s, t) -> x.interdictResponse(s, t, 5, 3)));
         promise.says("`to`: the node t", due -> Ask.to(due, (x, s, t) -> x.interdictResponse(s, t, 0, 0)));
+        promise.says("the node t", due -> Ask.waysOfFinder(due, (x, s, t) -> x.interdictResponse(s, t, 3, 1), 8, 3, FAR));
         promise.says("`budget`: the greatest cost, 0 to 5", due -> {
             Ask.range(due, 0, 5, (x, b) -> x.interdictResponse(0, 3, b, 1));
             atMostCost(due);
@@ -57,6 +58,10 @@ final class Promise23 {
         Ask.finds(due, x, "the greatest is repaired", x.interdictResponse(0, 4, 5, 1), 15, Texts.set(0, 1, 2));
         Ask.finds(due, x, "one that one repair makes useless", x.interdictResponse(0, 4, 1, 1), 4, 0);
         Ask.finds(due, x, "two of cost 1", x.interdictResponse(0, 4, 2, 1), 6, Texts.set(2, 3));
+        PathInterdiction y = Texts.loaded("bd0+6:1 ab0+x:1");
+        Ask.finds(due, y, "the last edge of the way is the first one", y.interdictResponse(0, 3, 3, 1), 6, 3);
+        y.addEdge(0, 3, 3, 1, 1);
+        Ask.finds(due, y, "a way that only a repair opens", y.interdictResponse(0, 3, 2, 1), 3, 3);
     }
 
     private static void atMostCost(Due due) {

@@ -15,6 +15,7 @@ final class Promise24 {
         promise.says("The set is the finding.", due -> Ask.finder(due, x -> x.fortify(0, 3, 3, 2)));
         promise.says("`from`: the node s", due -> Ask.from(due, (x, s, t) -> x.fortify(s, t, 3, 2)));
         promise.says("`to`: the node t", due -> Ask.to(due, (x, s, t) -> x.fortify(s, t, 0, 0)));
+        promise.says("the node t", due -> Ask.waysOfFinder(due, (x, s, t) -> x.fortify(s, t, 1, 1), 3, 1, FAR));
         promise.says("`budget`: the budget of the attacker, 0 to 3", due -> {
             Ask.range(due, 0, 3, (x, b) -> x.fortify(0, 3, b, 2));
             budgets(due);

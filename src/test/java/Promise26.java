@@ -11,6 +11,7 @@ final class Promise26 {
         promise.says("or, if it is in it, than if it is taken out", Promise26::takenOut);
         promise.says("`from`: the node s", due -> Ask.range(due, 0, 7, (x, v) -> x.worth(v, 1, 0)));
         promise.says("`to`: the node t", due -> Ask.range(due, 0, 7, (x, v) -> x.worth(1, v, 0)));
+        promise.says("the node t", due -> Ask.ways(due, (x, s, t) -> x.worth(s, t, 0), 5, 0));
         promise.says("`edge`: the edge", due -> Ask.edge(due, (x, e) -> x.worth(0, 3, e)));
         promise.says("Returns the difference (UNREACHABLE counts as a number)", Promise26::unreachable);
         promise.says("BAD", due -> {

@@ -11,6 +11,7 @@ final class Promise27 {
             Promise27::helpsTogether);
         promise.says("`from`: the node s", due -> Ask.from(due, (x, s, t) -> x.neverHelps(s, t, 5)));
         promise.says("`to`: the node t", due -> Ask.to(due, (x, s, t) -> x.neverHelps(s, t, 0)));
+        promise.says("the node t", due -> Ask.ways(due, (x, s, t) -> x.neverHelps(s, t, 1), 2, 3));
         promise.says("`budget`: the greatest cost, 0 to 5", due -> Ask.range(due, 0, 5, (x, b) -> x.neverHelps(0, 3, b)));
         promise.says("Returns the set", Promise27::emptyAndAll);
         promise.says("BAD", due -> Ask.isBad(due, "budget 6", x -> x.neverHelps(0, 0, 6)));
@@ -38,6 +39,10 @@ final class Promise27 {
         due.is("the second one helps beside a greater delay only", y.neverHelps(0, 1, 5), 6);
         y.setEdge(0, 3, 2);
         due.is("then it does", y.neverHelps(0, 1, 5), 4);
+        y.interdictResponse(0, 1, 5, 3);
+        due.is("repairs asked for before are no matter", y.neverHelps(0, 1, 5), 4);
+        PathInterdiction w = Texts.loaded("ab1+5:1 bc1+9:1 bc1+9:5");
+        due.is("beside one that helps", w.neverHelps(0, 2, 2), 6);
         PathInterdiction z = Benches.ladder(1);
         due.is("five of 16", z.neverHelps(0, 1, 5), 0xffff & ~31);
         due.is("one of 16", z.neverHelps(0, 1, 1), 0xfffe);

@@ -16,6 +16,7 @@ final class Promise28 {
         promise.says("Subsets under which t is unreachable are left out.", Promise28::leftOut);
         promise.says("`from`: the node s", due -> Ask.from(due, (x, s, t) -> x.expected(s, t, 0, 12)));
         promise.says("`to`: the node t", due -> Ask.to(due, (x, s, t) -> x.expected(s, t, 0, 0)));
+        promise.says("the node t", due -> Ask.ways(due, (x, s, t) -> x.expected(s, t, 3, 6), 36 * 3 + 36 * 8, 0));
         promise.says("`edges`: the attack, at most 6 edges", Promise28::atMostSix);
         promise.says("`q`: the chance in twelfths, 0 to 12", due -> Ask.range(due, 0, 12, (x, q) -> x.expected(0, 3, 0, q)));
         promise.says("Returns the sum", Promise28::greatSums);

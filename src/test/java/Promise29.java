@@ -12,6 +12,7 @@ final class Promise29 {
         promise.says("of the subsets that expected() leaves out", Promise29::leftOut);
         promise.says("`from`: the node s", due -> Ask.from(due, (x, s, t) -> x.lost(s, t, 0, 12)));
         promise.says("`to`: the node t", due -> Ask.to(due, (x, s, t) -> x.lost(s, t, 0, 0)));
+        promise.says("the node t", due -> Ask.ways(due, (x, s, t) -> x.lost(s, t, 3, 6), 72, 144));
         promise.says("`edges`: the attack, at most 6 edges", Promise29::atMostSix);
         promise.says("`q`: the chance in twelfths, 0 to 12", due -> Ask.range(due, 0, 12, (x, q) -> x.lost(0, 3, 0, q)));
         promise.says("Returns the sum; BAD", Promise29::sums);

@@ -22,7 +22,7 @@ final class Section {
         quote(words);
         Due due = new Due(title + ", \"" + words + "\"");
         test.accept(due);
-        all.holds(title + ", \"" + words + "\"", due.isClean() && due.hasAsked());
+        all.holds(title + ", \"" + words + "\"", due.isClean() && due.asked() > 0);
     }
 
     /** Words that ask for nothing by themselves, or that are tested at another place. */
