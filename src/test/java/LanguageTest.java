@@ -1,4 +1,6 @@
 import java.io.IOException;
+import java.lang.reflect.Field;
+import java.lang.reflect.Modifier;
 import java.nio.file.Files;
 import java.nio.file.Path;
 import java.util.ArrayList;
@@ -22,6 +24,8 @@ public final class LanguageTest {
         privateNames(code);
         methodLengths(source);
         madeOnce(code);
+        calls(source);
+        fields();
         due.end();
     }
 
@@ -102,6 +106,35 @@ public final class LanguageTest {
             if (line.contains("new ")) {
                 due.holds("made in a field: " + line.trim(), line.trim().matches("(private )?final .*"));
             }
+        }
+    }
+
+    /** Rules 8 and 11: calls at most eight deep; only private methods call themselves, and none in a circle. */
+    private static void calls(String source) {
+        CallGraph graph = new CallGraph(source);
+        due.holds("methods were seen", graph.size() > 80);
+        List<String> chain = graph.longestChain();
+        due.holds("no methods call one another in a circle", chain != null);
+        due.holds("calls are at most eight deep: " + chain, chain != null && chain.size() <= 8);
+        due.holds("the chain goes through the searches: " + chain, chain != null && chain.size() >= 7);
+        for (String name : graph.recursive()) {
+            due.holds(name + " calls itself and is private", !graph.isOpen(name));
+        }
+        due.is("methods that call themselves", graph.recursive().size(), 3);
+    }
+
+    /** Rules 2, 5 and 11: static fields are final, and a class has at most twenty other ones. */
+    private static void fields() {
+        List<Class<?>> classes = new ArrayList<>(List.of(PathInterdiction.class.getDeclaredClasses()));
+        classes.add(PathInterdiction.class);
+        for (Class<?> one : classes) {
+            int own = 0;
+            for (Field field : one.getDeclaredFields()) {
+                boolean shared = Modifier.isStatic(field.getModifiers());
+                own += shared ? 0 : 1;
+                due.holds(field + " is final if it is static", !shared || Modifier.isFinal(field.getModifiers()));
+            }
+            due.holds(one.getSimpleName() + " has at most twenty fields, not " + own, own >= 1 && own <= 20);
         }
     }
 }
